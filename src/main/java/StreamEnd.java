@@ -136,8 +136,13 @@ public final class StreamEnd {
         if (n > LATEST_TIME - watch.time) {
             throw new IllegalStateException("the time would be too late");
         }
-        for (int i = 0; i < n; i++) {
-            tick();
+        int left = n;
+        while (left > 0) {
+            // only an alarm has to be met at its very tick: what follows from it depends on when it came
+            int step = watch.alarmOn ? Math.max(1, Math.min(left, watch.ticksToAlarm())) : left;
+            left -= step;
+            watch.time += step;
+            takeEvents();
         }
         return watch.time;
     }
@@ -149,7 +154,7 @@ public final class StreamEnd {
             makeOpen();
         } else if (due.again) {
             makeAgain();
-        } else if (maySendNew() && out.newSize() > 0) {
+        } else if (maySendNew() && out.maySend()) {
             makeNew(out.newBytes(), out.newHasLast());
         } else if (due.probe) {
             makeProbe();
@@ -315,8 +320,7 @@ public final class StreamEnd {
         return value;
     }
 
-    private void tick() {
-        watch.time++;
+    private void takeEvents() {
         if (state == QUIET && watch.time >= quietEnd) {
             halt(FREE);
         }
@@ -699,8 +703,8 @@ public final class StreamEnd {
             return closed && !lastSent && n == unsent() && n < allowed();
         }
 
-        private int newSize() {
-            return newBytes() + (newHasLast() ? 1 : 0);
+        private boolean maySend() {
+            return newBytes() > 0 || newHasLast();
         }
 
         private void copyTo(Segment segment, int offset, int n) {
@@ -720,8 +724,8 @@ public final class StreamEnd {
         }
 
         private void thank(int thanked) {
-            int numbers = thanked - oldest;
-            int gone = Math.min(sent, oldest == first ? numbers - 1 : numbers);
+            // OPEN and LAST have numbers, but no place in the row; while OPEN is not thanked for, no byte was sent
+            int gone = Math.min(sent, thanked - oldest);
             start = (start + gone) & PLACE;
             count -= gone;
             sent -= gone;

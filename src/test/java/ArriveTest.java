@@ -46,7 +46,8 @@ public final class ArriveTest {
 
     private static void whenListening() {
         new Script("LISTENING", 100, 50).begin(1000, true).arrive(Script.R, 1, 2, 3, 4, Script.LISTENING)
-                .arrive(Script.R + Script.T + Script.O, 1, 2, 3, 4, Script.LISTENING).sendsNothing()
+                .arrive(Script.R + Script.T + Script.O, 1, 2, 3, 4, Script.LISTENING)
+                .arrive(Script.R + Script.O, 1, 2, 3, 4, Script.LISTENING).sendsNothing()
                 .arrive(Script.T + Script.O, 1, 2, 3, 4, Script.LISTENING).sends(Script.R, 2, 0, 0, 0, "")
                 .arrive(0, 1, 2, 3, 4, Script.LISTENING).feed("a")
                 .arrive(Script.L, 1, 2, 3, 4, Script.LISTENING).sendsNothing()
@@ -119,6 +120,7 @@ public final class ArriveTest {
                 .feed("a").arrive(Script.T, 7049, 1001, 11, 0, Script.ON).sends(Script.T, 1001, 0)
                 .feed("ab").arrive(Script.T, 7048, 1001, 11, 0, Script.ON).sends(Script.T, 1001, 0)
                 .feed("a").arrive(Script.R, 7049, 0, 0, 0, Script.ON).sendsNothing()
+                .feed("ab").arrive(Script.R, 7048, 0, 0, 0, Script.ON).sendsNothing()
                 .read("x").feed("a").arrive(Script.T, 7049, 1001, 11, 0, Script.ON)
                 .figures(Script.ROOM, 0, Script.EXPECTED, 7050);
     }
@@ -195,7 +197,10 @@ public final class ArriveTest {
         Script.answered("half the way round", 100, 9, 0).arrive(Script.T, 5001, 1001 + FAR, 50, 0, Script.ON)
                 .figures(Script.OLDEST, 1001, Script.WINDOW, 9)
                 .arrive(Script.T, 5002, 1001 + FAR, 51, 0, Script.ON)
-                .figures(Script.OLDEST, 1001, Script.WINDOW, 51).sendsNothing();
+                .figures(Script.OLDEST, 1001, Script.WINDOW, 51).sendsNothing()
+                // what told last thanked for is half the way round from 1001: not "not behind" it
+                .arrive(Script.T, 5002, 1001, 52, 0, Script.ON).figures(Script.WINDOW, 51)
+                .arrive(Script.T, 5003, 1001, 53, 0, Script.ON).figures(Script.WINDOW, 53);
     }
 
     private static void windows() {

@@ -72,6 +72,13 @@ public final class BeginTest {
         Script.answered("LAST of the old stream", 100, 30, 0)
                 .arrive(Script.T + Script.L, 5001, 1001, 30, 0, Script.ALONE).read(StreamEnd.OVER)
                 .abort().read(StreamEnd.OVER).begin(5, true).illegalState("read()", e -> e.read());
+        Script.answered("both LASTs of the old stream", 100, 30, 0).close().sends(Script.T + Script.L, 1001, 0)
+                .arrive(Script.T + Script.L, 5003, 1001, 30, 0, Script.LEAVING).abort()
+                .sends(Script.R + Script.T, 1002, 0).begin(1000, true)
+                .arrive(Script.O, 5000, 0, 30, 0, Script.ANSWERING).sends(Script.O + Script.T, 1000, 0)
+                .feed("abcd").arrive(Script.T, 5001, 1001, 30, 0, Script.ON).figures(Script.EXPECTED, 5005)
+                .arrive(Script.T + Script.L, 5005, 1001, 30, 0, Script.ALONE).sends(Script.T, 1001, 0)
+                .close().sends(Script.T + Script.L, 1001, 0);
     }
 
     private static void forgetsWhatWasMeasured() {

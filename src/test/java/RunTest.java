@@ -123,6 +123,9 @@ public final class RunTest {
                 .figures(Script.TRIES, 1).arrive(Script.T, 5001, 1001, 1, 0, Script.ON)
                 .figures(Script.TRIES, 0, Script.ALARM, 0)
                 .sends(Script.T, 1001, 5001, 2048, 0, "a").figures(Script.ALARM, 40).sendsNothing();
+        Script.answered("the window opens and closes before the probe is sent", 4, 0, 0).write("ab").run(20, 20)
+                .arrive(Script.T, 5001, 1001, 1, 0, Script.ON).arrive(Script.T, 5001, 1001, 0, 0, Script.ON)
+                .sendsNothing().figures(Script.ALARM, 40).run(40, 60).sends(Script.T, 1001, 1).sendsNothing();
         Script.answered("the window opens, a probe is on its way", 4, 0, 0).write("ab").run(20, 20)
                 .sends(Script.T, 1001, 1).run(10, 30).arrive(Script.T, 5001, 1001, 1, 0, Script.ON)
                 .figures(Script.TRIES, 0, Script.ALARM, 30).sendsNothing();
@@ -155,6 +158,9 @@ public final class RunTest {
         s.arrive(Script.T + Script.L, 5001, 1002, 9, 0, Script.QUIET).run(49, 98).state(Script.QUIET)
                 .arrive(Script.T, 5000, 1002, 9, 0, Script.QUIET).figures(Script.ALARM, 0)
                 .run(1, 99).state(Script.FREE).sendsNothing();
+        Script.answered("quiet ends within a long run", 4, 9, 0).close().sends(Script.T + Script.L, 1001, 0)
+                .arrive(Script.T + Script.L, 5001, 1002, 9, 0, Script.QUIET).run(2000, 2000).state(Script.FREE)
+                .sendsNothing();
         Script.answered("a misfit with RESET and LAST", 4, 9, 0).close().sends(Script.T + Script.L, 1001, 0)
                 .arrive(Script.T + Script.L, 5001, 1002, 9, 0, Script.QUIET).sends(Script.T, 1002, 0).run(40, 40)
                 .arrive(Script.R + Script.L, 5001, 1002, 9, 0, Script.QUIET).sendsNothing()
