@@ -1,39 +1,7 @@
 import java.nio.charset.StandardCharsets;
 
 /** A run of calls on one new StreamEnd: each method makes calls and notes every answer that is not the one due. */
-final class Script {
-    static final int FREE = 0;
-    static final int LISTENING = 1;
-    static final int ASKING = 2;
-    static final int ANSWERING = 3;
-    static final int ON = 4;
-    static final int LEAVING = 5;
-    static final int LEFT = 6;
-    static final int ALONE = 7;
-    static final int PARTING = 8;
-    static final int ENDING = 9;
-    static final int QUIET = 10;
-    static final int ABORTED = 11;
-
-    static final int OLDEST = 0;
-    static final int NEXT = 1;
-    static final int WINDOW = 2;
-    static final int EXPECTED = 3;
-    static final int ROOM = 4;
-    static final int WAIT = 5;
-    static final int OUT_BYTES = 6;
-    static final int READABLE = 7;
-    static final int TRIES = 8;
-    static final int PIECE = 9;
-    static final int SMOOTH = 10;
-    static final int SPREAD = 11;
-    static final int ALARM = 12;
-
-    static final int O = StreamEnd.OPEN;
-    static final int L = StreamEnd.LAST;
-    static final int R = StreamEnd.RESET;
-    static final int T = StreamEnd.THANKS;
-
+final class Script implements Names {
     private static final int MOST_CALLS = 512;
     private static int wrong = 0;
 
@@ -62,6 +30,51 @@ final class Script {
                 .arrive(T, 5001, 1001, window, 0, ON);
     }
 
+    /**
+     * An end in a state, with FIRST 1000, its largest 100, 50 quiet ticks; the peer's OPEN had number 5000, its LAST,
+     * where it came, 5001; the own LAST, where it was sent, has 1001. Nothing is to be sent.
+     */
+    static Script in(int state, String name) {
+        String named = name + ", state " + state;
+        switch (state) {
+            case FREE: return new Script(named, 100, 50);
+            case LISTENING: return new Script(named, 100, 50).begin(1000, true);
+            case ASKING: return new Script(named, 100, 50).begin(1000, false).sends(O, 1000, 0);
+            case ANSWERING:
+                return new Script(named, 100, 50).begin(1000, true).arrive(O, 5000, 0, 99, 0, ANSWERING)
+                        .sends(O + T, 1000, 0);
+            case ON: return answered(named, 100, 99, 0);
+            case LEAVING: return answered(named, 100, 99, 0).close().sends(T + L, 1001, 0);
+            case LEFT: return in(LEAVING, name).arrive(T, 5001, 1002, 99, 0, LEFT);
+            case ALONE: return answered(named, 100, 99, 0).arrive(T + L, 5001, 1001, 99, 0, ALONE).sends(T, 1001, 0);
+            case PARTING: return in(LEAVING, name).arrive(T + L, 5001, 1001, 99, 0, PARTING).sends(T, 1002, 0);
+            case ENDING: return in(ALONE, name).close().sends(T + L, 1001, 0);
+            case QUIET: return in(LEFT, name).arrive(T + L, 5001, 1002, 99, 0, QUIET).sends(T, 1002, 0);
+            default: return new Script(named, 100, 50).begin(1000, true).abort();
+        }
+    }
+
+    /** EXPECTED of an end that in() made. */
+    static int expectedIn(int state) {
+        return state >= ALONE && state <= QUIET ? 5002 : 5001;
+    }
+
+    /** OLDEST of an end that in() made and that is behind ANSWERING. */
+    static int oldestIn(int state) {
+        return state == LEFT || state == QUIET ? 1002 : 1001;
+    }
+
+    /** NEXT of an end that in() made and that has a peer. */
+    static int nextIn(int state) {
+        return state == LEAVING || state == LEFT || state >= PARTING && state <= QUIET ? 1002 : 1001;
+    }
+
+    /** An end that is ON, as answered() makes it, with 2048 bytes 'x' to be read; EXPECTED is 7049. */
+    static Script full(String name, int largest) {
+        return answered(name, largest, 99, 1460).feed(times("x", 1460)).arrive(T, 5001, 1001, 99, 0, ON)
+                .feed(times("x", 588)).arrive(T, 6461, 1001, 99, 0, ON).sends(T, 1001, 7049, 0, 0, "");
+    }
+
     static void finish() {
         if (wrong > 0) {
             System.out.println(wrong + " answers are not as due");
@@ -71,7 +84,7 @@ final class Script {
 
     static void note(String what) {
         wrong++;
-        System.out.println(what);
+        System.out.println(what + Sentence.told());
     }
 
     private Script due(String call, long got, long want) {

@@ -1,0 +1,67 @@
+import java.io.IOException;
+import java.io.UncheckedIOException;
+import java.nio.file.Files;
+import java.nio.file.Path;
+import java.util.BitSet;
+
+/** The sentences of the document: which one the runs of calls are about, and whether each has runs of its own. */
+final class Sentence {
+    private static final String TEXT = text();
+    private static final BitSet QUOTED = new BitSet();
+    private static String current = "";
+
+    private Sentence() {
+    }
+
+    /** What the document says of behaviour, without its headings and its code. */
+    private static String text() {
+        String all;
+        try {
+            all = Files.readString(Path.of("../shared/DOC.md"));
+        } catch (IOException e) {
+            throw new UncheckedIOException(e);
+        }
+        int from = all.indexOf("An object is used");
+        int to = all.indexOf("## Not promised");
+        if (from < 0 || to < from) {
+            return "";
+        }
+        return all.substring(from, to).replaceAll("(?s)```java.*?```", " ").replaceAll("```(text)?", " ")
+                .replaceAll("(?m)^#.*$", " ").replaceAll("`[^`]*`", " ").replaceAll("\\s+", " ");
+    }
+
+    /** The runs that follow are about these words of the document. */
+    static void says(String words) {
+        current = words;
+        int at = TEXT.indexOf(words);
+        if (at < 0) {
+            Script.note("the document does not say so");
+            return;
+        }
+        while (at >= 0) {
+            QUOTED.set(at, at + words.length());
+            at = TEXT.indexOf(words, at + 1);
+        }
+    }
+
+    static String told() {
+        return current.isEmpty() ? "" : "\n    the document says: " + current;
+    }
+
+    /** Notes all words of the document that no runs are about. */
+    static void allAreQuoted() {
+        current = "";
+        int at = QUOTED.nextClearBit(0);
+        while (at < TEXT.length()) {
+            int end = QUOTED.nextSetBit(at);
+            String left = TEXT.substring(at, end < 0 ? TEXT.length() : end);
+            if (left.matches(".*[A-Za-z0-9].*")) {
+                Script.note("no run of calls is about: " + left);
+            }
+            at = end < 0 ? TEXT.length() : QUOTED.nextClearBit(end);
+        }
+        if (TEXT.isEmpty()) {
+            Script.note("the document's text was not found");
+        }
+    }
+}
