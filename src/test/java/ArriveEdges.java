@@ -24,11 +24,12 @@ final class ArriveEdges implements Names {
     }
 
     private static void resets() {
-        Sentence.says("A SEGMENT ARRIVES. \"Resets\" means: if it has no RESET, a reset is to be sent, with its thanked number "
-                + "as number, or, if it has no THANKS, with RESET and THANKS, number 0, its number and size together as "
-                + "thanked; \"thanks\" means: a thanks is to be sent.");
+        Sentence.says("A SEGMENT ARRIVES. \"Resets\" means: if it has no RESET, a reset is to be sent, with its "
+                + "thanked number as number, or, if it has no THANKS, with RESET and THANKS, number 0, its number "
+                + "and size together as thanked; \"thanks\" means: a thanks is to be sent.");
         new Script("resets", 100, 50).arrive(T, 10, 77, 3, 4, FREE).sends(R, 77, 0, 0, 0, "").sendsNothing()
-                .arrive(T, 10, 0, 3, 4, FREE).sends(R, 0, 0, 0, 0, "").arrive(T, 10, MIN, 3, 4, FREE).sends(R, MIN, 0, 0, 0, "")
+                .arrive(T, 10, 0, 3, 4, FREE).sends(R, 0, 0, 0, 0, "").arrive(T, 10, MIN, 3, 4, FREE)
+                .sends(R, MIN, 0, 0, 0, "")
                 .arrive(0, 10, 77, 3, 4, FREE).sends(R + T, 0, 10, 0, 0, "").sendsNothing()
                 .arrive(0, 0, 77, 3, 4, FREE).sends(R + T, 0, 0, 0, 0, "")
                 .arrive(O + L, MAX, 77, 3, 4, FREE).sends(R + T, 0, MIN + 1, 0, 0, "")
@@ -68,7 +69,8 @@ final class ArriveEdges implements Names {
         int[] numbers = {5000, 0, -1, MAX, MIN};
         for (int number : numbers) {
             // EXPECTED 0 is told with THANKS, too
-            Script.in(LISTENING, "OPEN at " + number).arrive(O, number, 0, 9, 0, ANSWERING).figures(EXPECTED, number + 1)
+            Script.in(LISTENING, "OPEN at " + number).arrive(O, number, 0, 9, 0, ANSWERING)
+                    .figures(EXPECTED, number + 1)
                     .sends(O + T, 1000, number + 1, 2048, 100, "").sendsNothing();
         }
 
@@ -150,8 +152,8 @@ final class ArriveEdges implements Names {
     }
 
     private static void askingTakesOpen() {
-        Sentence.says("With OPEN: EXPECTED, PIECE and peer's window as above; with THANKS the state is ON, all before thanked "
-                + "is thanked for (as below), its OPEN is not to be sent any more, thanks;");
+        Sentence.says("With OPEN: EXPECTED, PIECE and peer's window as above; with THANKS the state is ON, all "
+                + "before thanked is thanked for (as below), its OPEN is not to be sent any more, thanks;");
         Script.in(ASKING, "answered").write("ab").arrive(O + T, 5000, 1001, 1, 40, ON)
                 .figures(EXPECTED, 5001, PIECE, 40, WINDOW, 1, OLDEST, 1001, NEXT, 1001, OUT_BYTES, 2, ALARM, 0, TRIES, 0)
                 .sends(T, 1001, 5001, 2048, 0, "a").sendsNothing();
@@ -184,8 +186,8 @@ final class ArriveEdges implements Names {
     }
 
     private static void fits() {
-        Sentence.says("In all other states it FITS, if some number that it takes up, or its number, if its size is 0, is one "
-                + "of the ROOM numbers from EXPECTED on, or its size is 0 and its number EXPECTED.");
+        Sentence.says("In all other states it FITS, if some number that it takes up, or its number, if its size is "
+                + "0, is one of the ROOM numbers from EXPECTED on, or its size is 0 and its number EXPECTED.");
         for (int state : FITTING) {
             int e = Script.expectedIn(state);
             Script s = Script.in(state, "size 0");
@@ -239,35 +241,41 @@ final class ArriveEdges implements Names {
     }
 
     private static void doesNotFit() {
-        Sentence.says("If it does not fit: thanks, unless it has RESET; in QUIET, if it has LAST, the quiet time begins anew; "
-                + "and no more.");
+        Sentence.says("If it does not fit: thanks, unless it has RESET; in QUIET, if it has LAST, the quiet time "
+                + "begins anew; and no more.");
         for (int state : FITTING) {
             int e = Script.expectedIn(state);
             int n = Script.nextIn(state);
-            Script.in(state, "does not fit").arrive(T, e - 1, n, 98, 0, state).sends(T, n, e, 2048, 0, "").sendsNothing()
+            Script.in(state, "does not fit").arrive(T, e - 1, n, 98, 0, state).sends(T, n, e, 2048, 0, "")
+                    .sendsNothing()
                     .arrive(R, e - 1, n, 98, 0, state).arrive(R + T, e + 2048, n, 98, 0, state).sendsNothing()
                     .feed("x").arrive(T + L, e + 2048, n, 98, 0, state).figures(WINDOW, 99, READABLE, 0, EXPECTED, e);
         }
-        Script.in(ON, "its thanked number counts for nothing").write("ab").sends(T, 1001, 2).arrive(T, 5000, 1003, 9, 0, ON)
+        Script.in(ON, "its thanked number counts for nothing").write("ab").sends(T, 1001, 2)
+                .arrive(T, 5000, 1003, 9, 0, ON)
                 .figures(OLDEST, 1001, OUT_BYTES, 2, ALARM, 20, WINDOW, 99).sends(T, 1003, 0);
         Script.in(QUIET, "quiet time, with LAST").run(49, 49).arrive(L, 5001, 0, 0, 0, QUIET).run(49, 98).state(QUIET)
                 .run(1, 99).state(FREE);
-        Script.in(QUIET, "quiet time, with LAST and RESET").run(49, 49).arrive(L + R, 5001, 0, 0, 0, QUIET).sendsNothing()
+        Script.in(QUIET, "quiet time, with LAST and RESET").run(49, 49).arrive(L + R, 5001, 0, 0, 0, QUIET)
+                .sendsNothing()
                 .run(49, 98).state(QUIET).run(1, 99).state(FREE);
-        Script.in(QUIET, "quiet time, without LAST").run(49, 49).arrive(T, 5001, 1002, 0, 0, QUIET).run(1, 50).state(FREE);
-        Script.in(QUIET, "quiet time, with LAST that fits").run(49, 49).arrive(T + L, 5002, 1002, 0, 0, QUIET).run(1, 50)
+        Script.in(QUIET, "quiet time, without LAST").run(49, 49).arrive(T, 5001, 1002, 0, 0, QUIET).run(1, 50)
+                .state(FREE);
+        Script.in(QUIET, "quiet time, with LAST that fits").run(49, 49).arrive(T + L, 5002, 1002, 0, 0, QUIET)
+                .run(1, 50)
                 .state(FREE);
     }
 
     private static void reset() {
-        Sentence.says("With RESET: if its number is EXPECTED, ANSWERING is LISTENING again if it began so, with all as begin() "
-                + "with FIRST makes it, PARTING, ENDING, QUIET are FREE, others ABORTED;");
+        Sentence.says("With RESET: if its number is EXPECTED, ANSWERING is LISTENING again if it began so, with all "
+                + "as begin() with FIRST makes it, PARTING, ENDING, QUIET are FREE, others ABORTED;");
         int[][] rows = {{ANSWERING, LISTENING}, {ON, ABORTED}, {LEAVING, ABORTED}, {LEFT, ABORTED}, {ALONE, ABORTED},
             {PARTING, FREE}, {ENDING, FREE}, {QUIET, FREE}};
         for (int[] row : rows) {
             int e = Script.expectedIn(row[0]);
             Script.in(row[0], "RESET").arrive(R, e, 0, 0, 0, row[1]).sendsNothing().figures(ALARM, 0);
-            Script.in(row[0], "RESET with all else").feed("abc").arrive(R + O + L + T, e, 0, 0, 0, row[1]).sendsNothing()
+            Script.in(row[0], "RESET with all else").feed("abc").arrive(R + O + L + T, e, 0, 0, 0, row[1])
+                    .sendsNothing()
                     .figures(READABLE, 0);
         }
         Script.in(ANSWERING, "all as begin() makes it").write("abc").close().run(60, 60).figures(TRIES, 1, WAIT, 120)
@@ -277,6 +285,9 @@ final class ArriveEdges implements Names {
                 .sendsNothing().run(200, 260).sendsNothing().illegalState("read()", e -> e.read())
                 .arrive(O, 70, 0, 9, 0, ANSWERING).write("d").sends(O + T, 1000, 71, 2048, 100, "")
                 .arrive(T, 71, 1001, 9, 0, ON).figures(SMOOTH, 0, WAIT, 20).sends(T, 1001, 71, 2048, 0, "d");
+        Script.in(ANSWERING, "a thanks is gone, a reset is not").arrive(T, 4000, 0, 0, 0, ANSWERING)
+                .arrive(T, 5001, 66, 0, 0, ANSWERING).arrive(R, 5001, 0, 0, 0, LISTENING).sends(R, 66, 0, 0, 0, "")
+                .sendsNothing();
         Script.in(ASKING, "ANSWERING that asked").arrive(O, 5000, 0, 9, 0, ANSWERING).arrive(R, 5001, 0, 0, 0, ABORTED)
                 .sendsNothing();
         Script.full("RESET with ROOM 0", 100).arrive(R, 7049, 0, 0, 0, ABORTED).read("x");

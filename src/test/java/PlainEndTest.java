@@ -93,7 +93,8 @@ public final class PlainEndTest {
         if (kind < (ended ? 40 : 1)) {
             int first = pick(1000, 0, -1, Integer.MAX_VALUE, Integer.MAX_VALUE - 3, Integer.MIN_VALUE, r.nextInt());
             boolean listening = r.nextBoolean();
-            compare("begin", () -> done(() -> end.begin(first, listening)), () -> done(() -> plain.begin(first, listening)));
+            compare("begin", () -> done(() -> end.begin(first, listening)),
+                    () -> done(() -> plain.begin(first, listening)));
         } else if (kind < 50) {
             arrive();
         } else if (kind < 62) {
@@ -121,7 +122,8 @@ public final class PlainEndTest {
 
     private void ticks() {
         int alarm = plain.figure(12);
-        int n = alarm > 0 && r.nextInt(3) > 0 ? alarm + pick(-1, 0, 0, 1) : pick(1, 3, 49, 50, 2000, r.nextInt(2100) - 20);
+        boolean toTheAlarm = alarm > 0 && r.nextInt(3) > 0;
+        int n = toTheAlarm ? alarm + pick(-1, 0, 0, 1) : pick(1, 3, 49, 50, 2000, r.nextInt(2100) - 20);
         compare("run(" + n + ")", () -> end.run(n), () -> plain.run(n));
     }
 

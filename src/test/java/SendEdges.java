@@ -19,7 +19,8 @@ final class SendEdges implements Names {
         new Script("a reset, then OPEN", 100, 50).arrive(T, 1, 66, 0, 0, FREE).begin(7, false)
                 .sends(R, 66, 0, 0, 0, "").sends(O, 7, 0, 2048, 100, "").sendsNothing();
         new Script("a reset, then a thanks", 100, 50).arrive(T, 1, 66, 0, 0, FREE).begin(7, false)
-                .arrive(O + T, 5000, 8, 9, 0, ON).sends(R, 66, 0, 0, 0, "").sends(T, 8, 5001, 2048, 0, "").sendsNothing();
+                .arrive(O + T, 5000, 8, 9, 0, ON).sends(R, 66, 0, 0, 0, "").sends(T, 8, 5001, 2048, 0, "")
+                .sendsNothing();
         Script.answered("again, then new", 2, 99, 0).write("abcd").sends(T, 1001, 2).run(20, 20)
                 .sends(T, 1001, 5001, 2048, 0, "ab").sends(T, 1003, 5001, 2048, 0, "cd").sendsNothing();
         Script.in(ON, "new, not a thanks").write("ab").feed("x").arrive(T, 5001, 1001, 99, 0, ON)
@@ -44,21 +45,24 @@ final class SendEdges implements Names {
     }
 
     private static void again() {
-        Sentence.says("what is sent AGAIN: from OLDEST on, up to NEXT, as many bytes as PIECE allows, with LAST if that was sent and "
-                + "follows;");
+        Sentence.says("what is sent AGAIN: from OLDEST on, up to NEXT, as many bytes as PIECE allows, with LAST if "
+                + "that was sent and follows;");
         Script.answered("just PIECE", 4, 99, 0).write("abcd").sends(T, 1001, 4).run(20, 20)
                 .sends(T, 1001, 5001, 2048, 0, "abcd").sendsNothing();
         Script.answered("one more than PIECE", 4, 99, 0).write("abcde").sends(T, 1001, 4).sends(T, 1005, 1).run(20, 20)
                 .sends(T, 1001, 5001, 2048, 0, "abcd").sendsNothing();
-        Script.answered("over the bounds of what was sent", 4, 99, 0).write("abcdef").sends(T, 1001, 4).sends(T, 1005, 2)
+        Script.answered("over the bounds of what was sent", 4, 99, 0).write("abcdef").sends(T, 1001, 4)
+                .sends(T, 1005, 2)
                 .arrive(T, 5001, 1003, 99, 0, ON).run(20, 20).sends(T, 1003, 5001, 2048, 0, "cdef").sendsNothing();
         Script.answered("up to NEXT", 4, 99, 0).write("ab").sends(T, 1001, 2).write("cd").run(20, 20)
                 .sends(T, 1001, 5001, 2048, 0, "ab");
-        Script.answered("just PIECE, and LAST follows", 4, 99, 0).write("abcd").close().sends(T + L, 1001, 4).run(20, 20)
+        Script.answered("just PIECE, and LAST follows", 4, 99, 0).write("abcd").close().sends(T + L, 1001, 4)
+                .run(20, 20)
                 .sends(T + L, 1001, 5001, 2048, 0, "abcd").sendsNothing();
         Script.answered("one more than PIECE, then LAST", 4, 99, 0).write("abcde").close().sends(T, 1001, 4)
                 .sends(T + L, 1005, 1).run(20, 20).sends(T, 1001, 5001, 2048, 0, "abcd").sendsNothing()
-                .arrive(T, 5001, 1002, 99, 0, LEAVING).run(40, 60).sends(T + L, 1002, 5001, 2048, 0, "bcde").sendsNothing();
+                .arrive(T, 5001, 1002, 99, 0, LEAVING).run(40, 60).sends(T + L, 1002, 5001, 2048, 0, "bcde")
+                .sendsNothing();
         Script.answered("LAST was not sent", 4, 4, 0).write("abcd").sends(T, 1001, 4).close().run(20, 20)
                 .sends(T, 1001, 5001, 2048, 0, "abcd").sendsNothing();
         Script.in(LEAVING, "LAST alone").run(20, 20).sends(T + L, 1001, 5001, 2048, 0, "").sendsNothing();
@@ -71,8 +75,8 @@ final class SendEdges implements Names {
     }
 
     private static void newBytes() {
-        Sentence.says("NEW: in ON, LEAVING, ALONE, PARTING, ENDING, from NEXT on, as many bytes as there are, as PIECE allows, and as "
-                + "peer's window does,");
+        Sentence.says("NEW: in ON, LEAVING, ALONE, PARTING, ENDING, from NEXT on, as many bytes as there are, as "
+                + "PIECE allows, and as peer's window does,");
         Script.in(ON, "no bytes").sendsNothing().write("a").sends(T, 1001, 5001, 2048, 0, "a").sendsNothing();
         Script.in(ON, "LEAVING").write("ab").close().sends(T + L, 1001, 5001, 2048, 0, "ab");
         Script.in(ALONE, "ALONE").write("ab").sends(T, 1001, 5002, 2048, 0, "ab").sendsNothing();
@@ -93,13 +97,16 @@ final class SendEdges implements Names {
     }
 
     private static void newLast() {
-        Sentence.says("and LAST with them or alone, if it has closed, all bytes before it are in this or earlier segments, and peer's "
-                + "window allows it;");
+        Sentence.says("and LAST with them or alone, if it has closed, all bytes before it are in this or earlier "
+                + "segments, and peer's window allows it;");
         Script.answered("it has not closed", 4, 99, 0).write("ab").sends(T, 1001, 5001, 2048, 0, "ab").sendsNothing();
-        Script.answered("with them", 4, 99, 0).write("ab").close().sends(T + L, 1001, 5001, 2048, 0, "ab").sendsNothing();
-        Script.answered("with just PIECE bytes", 4, 99, 0).write("abcd").close().sends(T + L, 1001, 5001, 2048, 0, "abcd")
+        Script.answered("with them", 4, 99, 0).write("ab").close().sends(T + L, 1001, 5001, 2048, 0, "ab")
                 .sendsNothing();
-        Script.answered("with the last piece alone", 4, 99, 0).write("abcde").close().sends(T, 1001, 5001, 2048, 0, "abcd")
+        Script.answered("with just PIECE bytes", 4, 99, 0).write("abcd").close()
+                .sends(T + L, 1001, 5001, 2048, 0, "abcd")
+                .sendsNothing();
+        Script.answered("with the last piece alone", 4, 99, 0).write("abcde").close()
+                .sends(T, 1001, 5001, 2048, 0, "abcd")
                 .sends(T + L, 1005, 5001, 2048, 0, "e").sendsNothing();
         Script.answered("alone", 4, 99, 0).close().sends(T + L, 1001, 5001, 2048, 0, "").sendsNothing();
         Script.answered("alone, behind bytes that were sent", 4, 99, 0).write("ab").sends(T, 1001, 2).close()
@@ -117,7 +124,8 @@ final class SendEdges implements Names {
 
     private static void probe() {
         Sentence.says("a PROBE: the next one number from NEXT on, a byte or LAST; a thanks.");
-        Script.answered("a byte of many", 4, 0, 0).write("abc").run(20, 20).sends(T, 1001, 5001, 2048, 0, "a").sendsNothing()
+        Script.answered("a byte of many", 4, 0, 0).write("abc").run(20, 20).sends(T, 1001, 5001, 2048, 0, "a")
+                .sendsNothing()
                 .figures(NEXT, 1002);
         Script.answered("the only byte, LAST behind it", 4, 0, 0).write("a").close().run(20, 20)
                 .sends(T, 1001, 5001, 2048, 0, "a").sendsNothing().figures(NEXT, 1002)
@@ -135,9 +143,12 @@ final class SendEdges implements Names {
     private static void thanksAndRoom() {
         Sentence.says("All but a reset have THANKS and EXPECTED, once the peer's OPEN has come, and ROOM as window;");
         new Script("before the peer's OPEN", 100, 50).begin(7, false).sends(O, 7, 0, 2048, 100, "");
-        new Script("EXPECTED is 0", 100, 50).begin(7, false).arrive(O + T, -1, 8, 99, 0, ON).sends(T, 8, 0, 2048, 0, "");
-        Script.in(ON, "ROOM 2046").feed("xy").arrive(T, 5001, 1001, 99, 0, ON).sends(T, 1001, 5003, 2046, 0, "").write("ab")
-                .sends(T, 1001, 5003, 2046, 0, "ab").run(20, 20).read("x").sends(T, 1001, 5003, 2047, 0, "ab").close().read("y")
+        new Script("EXPECTED is 0", 100, 50).begin(7, false).arrive(O + T, -1, 8, 99, 0, ON)
+                .sends(T, 8, 0, 2048, 0, "");
+        Script.in(ON, "ROOM 2046").feed("xy").arrive(T, 5001, 1001, 99, 0, ON).sends(T, 1001, 5003, 2046, 0, "")
+                .write("ab")
+                .sends(T, 1001, 5003, 2046, 0, "ab").run(20, 20).read("x").sends(T, 1001, 5003, 2047, 0, "ab").close()
+                .read("y")
                 .sends(T + L, 1003, 5003, 2048, 0, "");
         Script.full("ROOM 0", 100).write("ab").sends(T, 1001, 7049, 0, 0, "ab").read("x").write("c")
                 .sends(T, 1003, 7049, 1, 0, "c");

@@ -32,12 +32,13 @@ final class Sentence {
 
     /** The runs that follow are about these words of the document. */
     static void says(String words) {
-        current = words;
         int at = TEXT.indexOf(words);
         if (at < 0) {
-            Script.note("the document does not say so");
+            current = "";
+            Script.note("the document has no such words: " + words);
             return;
         }
+        current = words;
         while (at >= 0) {
             QUOTED.set(at, at + words.length());
             at = TEXT.indexOf(words, at + 1);

@@ -66,7 +66,8 @@ final class StreamEdges implements Names {
     private static void thankedFor() {
         Sentence.says("If OLDEST is before thanked: all before thanked is thanked for, and goes out of OUT;");
         Script s = Script.in(ON, "thanks bit by bit").write("abcd").sends(T, 1001, 4).arrive(T, 5001, 1001, 99, 0, ON)
-                .figures(OLDEST, 1001, OUT_BYTES, 4).arrive(T, 5001, 1002, 99, 0, ON).figures(OLDEST, 1002, OUT_BYTES, 3);
+                .figures(OLDEST, 1001, OUT_BYTES, 4).arrive(T, 5001, 1002, 99, 0, ON)
+                .figures(OLDEST, 1002, OUT_BYTES, 3);
         s.arrive(T, 5001, 1001, 99, 0, ON).figures(OLDEST, 1002, OUT_BYTES, 3)
                 .arrive(T, 5001, 1005, 99, 0, ON).figures(OLDEST, 1005, OUT_BYTES, 0);
         Script.in(ON, "what is not sent stays").write("ab").sends(T, 1001, 2).write("cd")
@@ -80,13 +81,14 @@ final class StreamEdges implements Names {
     }
 
     private static void whatFollowsFromThanks() {
-        Sentence.says("a measured time may come (see below), tries are 0, and the alarm is set anew (with WAIT as it is then) if "
-                + "something sent is not thanked for, otherwise off; nothing is to be sent again.");
+        Sentence.says("a measured time may come (see below), tries are 0, and the alarm is set anew (with WAIT as it "
+                + "is then) if something sent is not thanked for, otherwise off; nothing is to be sent again.");
         // the first measured time was 0; this one of 8 makes SMOOTH 8 and SPREAD 8, and WAIT stays at its least
         Script.in(ON, "some is left").write("abcd").sends(T, 1001, 4).run(8, 8).write("e").sends(T, 1005, 1)
                 .arrive(T, 5001, 1005, 99, 0, ON).figures(SMOOTH, 8, SPREAD, 8, WAIT, 20, ALARM, 20)
                 .run(19, 27).figures(TRIES, 0).run(1, 28).figures(TRIES, 1);
-        Script.in(ON, "nothing is left").write("abcd").sends(T, 1001, 4).run(20, 20).figures(TRIES, 1, ALARM, 40, WAIT, 40)
+        Script.in(ON, "nothing is left").write("abcd").sends(T, 1001, 4).run(20, 20)
+                .figures(TRIES, 1, ALARM, 40, WAIT, 40)
                 .arrive(T, 5001, 1005, 99, 0, ON).figures(TRIES, 0, ALARM, 0).sendsNothing().run(100, 120)
                 .figures(TRIES, 0).sendsNothing();
         Script.in(ON, "WAIT as it is then").write("abcd").sends(T, 1001, 4).run(20, 20).sends(T, 1001, 4).run(3, 23)
@@ -101,20 +103,29 @@ final class StreamEdges implements Names {
     }
 
     private static void whoTellsTheWindow() {
-        Sentence.says("If thanked is not before OLDEST, and the number that told the window last is before the segment's, or the "
-                + "same and what that thanked for not behind thanked: peer's window is WINDOW, told by these two numbers;");
+        Sentence.says("If thanked is not before OLDEST, and the number that told the window last is before the "
+                + "segment's, or the same and what that thanked for not behind thanked: peer's window is WINDOW, "
+                + "told by these two numbers;");
         Script.in(ON, "thanked is before OLDEST, or is OLDEST").arrive(T, 5001, 1000, 50, 0, ON).figures(WINDOW, 99)
-                .arrive(T, 5002, 1000, 51, 0, ON).figures(WINDOW, 99).arrive(T, 5001, 1001, 52, 0, ON).figures(WINDOW, 52);
-        Script.in(ON, "OLDEST as it is behind the thanks").write("ab").sends(T, 1001, 2).arrive(T, 5001, 1002, 50, 0, ON)
+                .arrive(T, 5002, 1000, 51, 0, ON).figures(WINDOW, 99).arrive(T, 5001, 1001, 52, 0, ON)
+                .figures(WINDOW, 52);
+        Script.in(ON, "OLDEST as it is behind the thanks").write("ab").sends(T, 1001, 2)
+                .arrive(T, 5001, 1002, 50, 0, ON)
                 .figures(WINDOW, 50).arrive(T, 5002, 1001, 51, 0, ON).figures(WINDOW, 50);
-        Script.in(ON, "told by an earlier, the same and a later number").arrive(T, 5003, 1001, 50, 0, ON).figures(WINDOW, 50)
-                .arrive(T, 5002, 1001, 51, 0, ON).figures(WINDOW, 50).arrive(T, 5003, 1001, 52, 0, ON).figures(WINDOW, 52)
-                .arrive(T, 5004, 1001, 53, 0, ON).figures(WINDOW, 53).arrive(T, 5003, 1001, 54, 0, ON).figures(WINDOW, 53);
+        Script.in(ON, "told by an earlier, the same and a later number").arrive(T, 5003, 1001, 50, 0, ON)
+                .figures(WINDOW, 50)
+                .arrive(T, 5002, 1001, 51, 0, ON).figures(WINDOW, 50).arrive(T, 5003, 1001, 52, 0, ON)
+                .figures(WINDOW, 52)
+                .arrive(T, 5004, 1001, 53, 0, ON).figures(WINDOW, 53).arrive(T, 5003, 1001, 54, 0, ON)
+                .figures(WINDOW, 53);
         Script.in(ON, "the same number, and a later thanked one").write("ab").sends(T, 1001, 2)
-                .arrive(T, 5001, 1002, 50, 0, ON).figures(WINDOW, 50).arrive(T, 5001, 1003, 51, 0, ON).figures(WINDOW, 51);
+                .arrive(T, 5001, 1002, 50, 0, ON).figures(WINDOW, 50).arrive(T, 5001, 1003, 51, 0, ON)
+                .figures(WINDOW, 51);
         // half way round is not before OLDEST, but what told the window is behind it
-        Script.in(ON, "the same number, and one that is behind").arrive(T, 5001, 1001 + MIN, 50, 0, ON).figures(WINDOW, 99)
-                .arrive(T, 5002, 1001 + MIN, 50, 0, ON).figures(WINDOW, 50).arrive(T, 5002, 1001, 51, 0, ON).figures(WINDOW, 50)
+        Script.in(ON, "the same number, and one that is behind").arrive(T, 5001, 1001 + MIN, 50, 0, ON)
+                .figures(WINDOW, 99)
+                .arrive(T, 5002, 1001 + MIN, 50, 0, ON).figures(WINDOW, 50).arrive(T, 5002, 1001, 51, 0, ON)
+                .figures(WINDOW, 50)
                 .arrive(T, 5003, 1001, 52, 0, ON).figures(WINDOW, 52);
         int[] windows = {0, 1, 65535};
         for (int window : windows) {
@@ -123,15 +134,17 @@ final class StreamEdges implements Names {
     }
 
     private static void windowOpensOrCloses() {
-        Sentence.says("if it was 0 and now is not, tries are 0, no probe is to be sent, and the alarm is off unless something sent "
-                + "is not thanked for; if it is 0, tries are 0.");
+        Sentence.says("if it was 0 and now is not, tries are 0, no probe is to be sent, and the alarm is off unless "
+                + "something sent is not thanked for; if it is 0, tries are 0.");
         Script.answered("0, then 1: nothing was sent", 100, 0, 0).write("ab").run(20, 20).figures(TRIES, 1, ALARM, 40)
                 .arrive(T, 5001, 1001, 1, 0, ON).figures(TRIES, 0, ALARM, 0)
                 .sends(T, 1001, 5001, 2048, 0, "a").sendsNothing();
         // were the probe still to be sent, it would follow what the window allows
-        Script.answered("0, then 1, then 0: no probe", 100, 0, 0).write("ab").run(20, 20).arrive(T, 5001, 1001, 1, 0, ON)
+        Script.answered("0, then 1, then 0: no probe", 100, 0, 0).write("ab").run(20, 20)
+                .arrive(T, 5001, 1001, 1, 0, ON)
                 .arrive(T, 5001, 1001, 0, 0, ON).figures(ALARM, 40).sendsNothing();
-        Script.answered("0, then 1: a probe is on its way", 100, 0, 0).write("ab").run(20, 20).sends(T, 1001, 1).run(15, 35)
+        Script.answered("0, then 1: a probe is on its way", 100, 0, 0).write("ab").run(20, 20).sends(T, 1001, 1)
+                .run(15, 35)
                 .arrive(T, 5001, 1001, 1, 0, ON).figures(TRIES, 0, ALARM, 25).sendsNothing()
                 .run(25, 60).figures(TRIES, 1).sends(T, 1001, 5001, 2048, 0, "a");
         Script.answered("0, then 0", 100, 0, 0).write("ab").run(25, 25).figures(TRIES, 1, ALARM, 35)
@@ -157,7 +170,8 @@ final class StreamEdges implements Names {
         }
         Script.answered("LAST was not sent", 100, 0, 0).close().arrive(T, 5001, 1001, 0, 0, LEAVING)
                 .arrive(T + L, 5001, 1001, 0, 0, PARTING).arrive(T, 5002, 1001, 0, 0, PARTING);
-        Script.answered("LAST was not sent, the peer has left", 100, 0, 0).arrive(T + L, 5001, 1001, 0, 0, ALONE).close()
+        Script.answered("LAST was not sent, the peer has left", 100, 0, 0).arrive(T + L, 5001, 1001, 0, 0, ALONE)
+                .close()
                 .arrive(T, 5002, 1001, 0, 0, ENDING);
         Script.in(ENDING, "and no more").feed("ab").arrive(T + L, 5002, 1002, 98, 0, FREE).sendsNothing();
         Script.in(ON, "all but LAST").write("ab").close().sends(T + L, 1001, 2).arrive(T, 5001, 1003, 98, 0, LEAVING)
@@ -165,8 +179,8 @@ final class StreamEdges implements Names {
     }
 
     private static void bytesCome() {
-        Sentence.says("Then, in ON, LEAVING, LEFT: those of its bytes that are among the ROOM numbers from EXPECTED on and have not "
-                + "come yet come;");
+        Sentence.says("Then, in ON, LEAVING, LEFT: those of its bytes that are among the ROOM numbers from EXPECTED "
+                + "on and have not come yet come;");
         int[] states = {ON, LEAVING, LEFT};
         for (int state : states) {
             int n = Script.oldestIn(state);
@@ -189,7 +203,8 @@ final class StreamEdges implements Names {
     }
 
     private static void lastIsKnown() {
-        Sentence.says("if it has LAST, among these numbers too, the number of that is known (the first one that is stays so).");
+        Sentence.says("if it has LAST, among these numbers too, the number of that is known (the first one that is "
+                + "stays so).");
         Script.in(ON, "an early LAST stays").arrive(T + L, 5003, 1001, 99, 0, ON).arrive(T + L, 5002, 1001, 99, 0, ON)
                 .arrive(T + L, 5001, 1001, 99, 0, ON).figures(EXPECTED, 5001)
                 .feed("ab").arrive(T, 5001, 1001, 99, 0, ALONE).figures(EXPECTED, 5004, READABLE, 2);
@@ -212,8 +227,8 @@ final class StreamEdges implements Names {
     }
 
     private static void expectedGoesOn() {
-        Sentence.says("EXPECTED goes on over all that have come, but not over what came at the number of LAST or behind it, which "
-                + "counts for nothing;");
+        Sentence.says("EXPECTED goes on over all that have come, but not over what came at the number of LAST or "
+                + "behind it, which counts for nothing;");
         Script.in(ON, "over a hole that is filled").feed("c").arrive(T, 5003, 1001, 99, 0, ON)
                 .feed("e").arrive(T, 5005, 1001, 99, 0, ON).figures(EXPECTED, 5001)
                 .feed("a").arrive(T, 5001, 1001, 99, 0, ON).figures(EXPECTED, 5002)
@@ -230,7 +245,8 @@ final class StreamEdges implements Names {
     }
 
     private static void expectedGoesOverLast() {
-        Sentence.says("and over LAST when all before it has come: then ON is ALONE, LEAVING is PARTING, LEFT is QUIET.");
+        Sentence.says("and over LAST when all before it has come: then ON is ALONE, LEAVING is PARTING, LEFT is "
+                + "QUIET.");
         int[][] rows = {{ON, ALONE}, {LEAVING, PARTING}, {LEFT, QUIET}};
         for (int[] row : rows) {
             int thanked = Script.oldestIn(row[0]);
@@ -246,13 +262,15 @@ final class StreamEdges implements Names {
 
     private static void bytesAreThankedFor() {
         Sentence.says("If the segment has bytes or LAST: thanks.");
-        Script.in(ON, "bytes").feed("a").arrive(T, 5001, 1001, 99, 0, ON).sends(T, 1001, 5002, 2047, 0, "").sendsNothing();
+        Script.in(ON, "bytes").feed("a").arrive(T, 5001, 1001, 99, 0, ON).sends(T, 1001, 5002, 2047, 0, "")
+                .sendsNothing();
         Script.in(ON, "LAST").arrive(T + L, 5001, 1001, 99, 0, ALONE).sends(T, 1001, 5002, 2048, 0, "").sendsNothing();
         Script.in(ON, "neither").arrive(T, 5001, 1001, 99, 0, ON).sendsNothing().arrive(T, 5002, 1001, 98, 0, ON)
                 .sendsNothing();
         Script.in(ON, "bytes that had come").feed("ab").arrive(T, 5001, 1001, 99, 0, ON).sends(T, 1001, 0)
                 .feed("b").arrive(T + L, 5002, 1001, 99, 0, ALONE).sends(T, 1001, 5004, 2046, 0, "").sendsNothing();
-        Script.in(ON, "bytes out of order").feed("b").arrive(T, 5002, 1001, 99, 0, ON).sends(T, 1001, 5001, 2048, 0, "");
+        Script.in(ON, "bytes out of order").feed("b").arrive(T, 5002, 1001, 99, 0, ON)
+                .sends(T, 1001, 5001, 2048, 0, "");
     }
 
     private static void inOtherStates() {
@@ -261,7 +279,8 @@ final class StreamEdges implements Names {
         for (int state : states) {
             int thanked = Script.oldestIn(state);
             int n = Script.nextIn(state);
-            Script.in(state, "bytes").feed("ab").arrive(T, 5002, thanked, 99, 0, state).figures(EXPECTED, 5002, READABLE, 0)
+            Script.in(state, "bytes").feed("ab").arrive(T, 5002, thanked, 99, 0, state)
+                    .figures(EXPECTED, 5002, READABLE, 0)
                     .sends(T, n, 5002, 2048, 0, "").sendsNothing().read(StreamEnd.OVER);
             Script.in(state, "LAST").arrive(T + L, 5002, thanked, 99, 0, state).figures(EXPECTED, 5002)
                     .sends(T, n, 5002, 2048, 0, "").sendsNothing();
@@ -286,14 +305,16 @@ final class StreamEdges implements Names {
     }
 
     private static Script quietEnd(int quiet) {
-        return new Script("quiet time " + quiet, 100, quiet).begin(1000, false).arrive(O + T, 5000, 1001, 99, 0, ON).close()
+        return new Script("quiet time " + quiet, 100, quiet).begin(1000, false).arrive(O + T, 5000, 1001, 99, 0, ON)
+                .close()
                 .sends(T + L, 1001, 0).arrive(T + L, 5001, 1002, 99, 0, QUIET);
     }
 
     private static void nothingMoreAtTheEnd() {
-        Sentence.says("Whenever the state becomes FREE, ABORTED or QUIET, nothing but a reset (QUIET: or a thanks) is to be sent any "
-                + "more, and the alarm is off;");
-        Script.in(ON, "new, again and thanks, then ABORTED").write("ab").sends(T, 1001, 2).write("cd").run(20, 20).feed("x")
+        Sentence.says("Whenever the state becomes FREE, ABORTED or QUIET, nothing but a reset (QUIET: or a thanks) "
+                + "is to be sent any more, and the alarm is off;");
+        Script.in(ON, "new, again and thanks, then ABORTED").write("ab").sends(T, 1001, 2).write("cd").run(20, 20)
+                .feed("x")
                 .arrive(T, 5001, 1001, 99, 0, ON).arrive(R, 5002, 0, 0, 0, ABORTED).sendsNothing().figures(ALARM, 0)
                 .run(500, 520).sendsNothing().figures(TRIES, 1);
         Script.answered("a probe, then ABORTED", 100, 0, 0).write("ab").run(20, 20).arrive(R, 5001, 0, 0, 0, ABORTED)
@@ -322,7 +343,8 @@ final class StreamEdges implements Names {
                 .begin(1, true).figures(OLDEST, 1, WINDOW, 0, EXPECTED, 0, WAIT, 60, OUT_BYTES, 0, TRIES, 0);
         Script.in(LEAVING, "QUIET, then FREE").feed("xy").arrive(T + L, 5001, 1002, 98, 0, QUIET)
                 .figures(OLDEST, 1002, NEXT, 1002, WINDOW, 98, EXPECTED, 5004, READABLE, 2, ROOM, 2046).read("x")
-                .run(50, 50).state(FREE).figures(OLDEST, 1002, NEXT, 1002, WINDOW, 98, EXPECTED, 5004, READABLE, 1, ROOM, 2047)
+                .run(50, 50).state(FREE)
+                .figures(OLDEST, 1002, NEXT, 1002, WINDOW, 98, EXPECTED, 5004, READABLE, 1, ROOM, 2047)
                 .read("y").read(StreamEnd.OVER);
         new Script("FREE by close()", 100, 50).begin(7, false).write("ab").close().state(FREE)
                 .figures(OLDEST, 7, NEXT, 8, OUT_BYTES, 2);

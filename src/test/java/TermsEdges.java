@@ -19,7 +19,8 @@ final class TermsEdges implements Names {
     }
 
     private static void calls() {
-        Sentence.says("An object is used for at most 512 calls after it has been made; what later calls answer is free.");
+        Sentence.says("An object is used for at most 512 calls after it has been made; what later calls answer is "
+                + "free.");
         Script s = new Script("512 calls", 100, 50).begin(1, false);
         for (int i = 1; i <= 509; i++) {
             s.run(1, i);
@@ -28,8 +29,8 @@ final class TermsEdges implements Names {
     }
 
     private static void numbersGoRound() {
-        Sentence.says("NUMBERS are ints of 32 bits that go round: x is BEFORE y if y - x (as an int) is above 0, "
-                + "and NOT BEHIND it if that is 0, too.");
+        Sentence.says("NUMBERS are ints of 32 bits that go round: x is BEFORE y if y - x (as an int) is above 0, and "
+                + "NOT BEHIND it if that is 0, too.");
         new Script("own numbers, behind the greatest int", 100, 50).begin(MAX - 1, false).sends(O, MAX - 1, 0)
                 .arrive(O + T, 5000, MAX, 99, 0, ON).sends(T, MAX, 0)
                 .write("abc").sends(T, MAX, 5001, 2048, 0, "abc").figures(OLDEST, MAX, NEXT, MIN + 2)
@@ -93,8 +94,8 @@ final class TermsEdges implements Names {
             }
         }
 
-        Sentence.says("a NUMBER, a THANKED number (all before it has come), a WINDOW, 0 .. 65535, a LARGEST, 0 .. 65535, "
-                + "and 0 .. 1460 BYTES.");
+        Sentence.says("a NUMBER, a THANKED number (all before it has come), a WINDOW, 0 .. 65535, a LARGEST, 0 .. "
+                + "65535, and 0 .. 1460 BYTES.");
         new Script("the greatest parts", 1460, 50).begin(1000, true)
                 .arrive(O, 5000, 0, 65535, 65535, ANSWERING).figures(WINDOW, 65535, PIECE, 1460)
                 .sends(O + T, 1000, 5001, 2048, 1460, "").feed(Script.times("x", 1460))
@@ -102,13 +103,14 @@ final class TermsEdges implements Names {
         new Script("the least parts", 1460, 50).begin(0, true).arrive(O, 0, 0, 0, 0, ANSWERING)
                 .figures(WINDOW, 0, PIECE, 536, EXPECTED, 1).sends(O + T, 0, 1, 2048, 1460, "")
                 .arrive(T, 1, 1, 0, 0, ON).figures(READABLE, 0, EXPECTED, 1);
-        Script.answered("a made segment has 1460 bytes at most", 1460, 65535, 65535).write(Script.times("abcdefgh", 183))
+        Script.answered("a made segment has 1460 bytes at most", 1460, 65535, 65535)
+                .write(Script.times("abcdefgh", 183))
                 .sends(T, 1001, 1460).sends(T, 2461, 4).sendsNothing();
     }
 
     private static void sizes() {
-        Sentence.says("Its OPEN, then its bytes, then its LAST take up one number each, from its number on; the SIZE is "
-                + "how many these are.");
+        Sentence.says("Its OPEN, then its bytes, then its LAST take up one number each, from its number on; the SIZE "
+                + "is how many these are.");
         // a reset to a segment without THANKS tells its number and size together
         new Script("sizes", 100, 50).arrive(0, 10, 0, 0, 0, FREE).sends(R + T, 0, 10, 0, 0, "")
                 .arrive(O, 10, 0, 0, 0, FREE).sends(R + T, 0, 11, 0, 0, "")
@@ -117,7 +119,8 @@ final class TermsEdges implements Names {
                 .feed("a").arrive(0, 10, 0, 0, 0, FREE).sends(R + T, 0, 11, 0, 0, "")
                 .feed("abc").arrive(O + L, MAX, 0, 0, 0, FREE).sends(R + T, 0, MIN + 4, 0, 0, "")
                 .feed(Script.times("x", 1460)).arrive(O + L, 10, 0, 0, 0, FREE).sends(R + T, 0, 1472, 0, 0, "");
-        Script.answered("LAST is behind the bytes that come", 100, 99, 0).feed("ab").arrive(T + L, 5001, 1001, 99, 0, ALONE)
+        Script.answered("LAST is behind the bytes that come", 100, 99, 0).feed("ab")
+                .arrive(T + L, 5001, 1001, 99, 0, ALONE)
                 .figures(EXPECTED, 5004, READABLE, 2);
         Script.answered("LAST is behind the bytes that go", 100, 99, 0).write("ab").close().sends(T + L, 1001, 2)
                 .figures(NEXT, 1004).arrive(T, 5001, 1003, 99, 0, LEAVING).figures(OUT_BYTES, 0)
@@ -157,8 +160,8 @@ final class TermsEdges implements Names {
     }
 
     private static void firstOldestNext() {
-        Sentence.says("FIRST is its own first number, OLDEST the first one that was not thanked for, NEXT the first one "
-                + "that was not sent yet (those of its OPEN, its bytes and its LAST follow one another);");
+        Sentence.says("FIRST is its own first number, OLDEST the first one that was not thanked for, NEXT the first "
+                + "one that was not sent yet (those of its OPEN, its bytes and its LAST follow one another);");
         new Script("one after another", 2, 50).begin(7, false).sends(O, 7, 0)
                 .arrive(O + T, 5000, 8, 99, 0, ON).figures(OLDEST, 8, NEXT, 8).write("abc").close()
                 .sends(T, 8, 5001, 2048, 0, "ab").figures(OLDEST, 8, NEXT, 10)
@@ -166,14 +169,15 @@ final class TermsEdges implements Names {
                 .arrive(T, 5001, 9, 99, 0, LEAVING).figures(OLDEST, 9, NEXT, 12)
                 .arrive(T, 5001, 12, 99, 0, LEFT).figures(OLDEST, 12, NEXT, 12);
 
-        Sentence.says("at first, and LISTENING, both are FIRST; NEXT is FIRST and 1 as soon as the state is ASKING or "
-                + "ANSWERING, though OPEN is still to be sent.");
+        Sentence.says("at first, and LISTENING, both are FIRST; NEXT is FIRST and 1 as soon as the state is ASKING "
+                + "or ANSWERING, though OPEN is still to be sent.");
         new Script("at first", 100, 50).figures(OLDEST, 0, NEXT, 0);
         int[] firsts = {0, 7, -1, MAX, MIN};
         for (int first : firsts) {
             new Script("LISTENING, then ANSWERING from " + first, 100, 50).begin(first, true)
                     .figures(OLDEST, first, NEXT, first).arrive(O, 5000, 0, 99, 0, ANSWERING)
-                    .figures(OLDEST, first, NEXT, first + 1).sends(O + T, first, 0).figures(OLDEST, first, NEXT, first + 1)
+                    .figures(OLDEST, first, NEXT, first + 1).sends(O + T, first, 0)
+                    .figures(OLDEST, first, NEXT, first + 1)
                     .arrive(R, 5001, 0, 0, 0, LISTENING).figures(OLDEST, first, NEXT, first);
             new Script("ASKING from " + first, 100, 50).begin(first, false).figures(OLDEST, first, NEXT, first + 1)
                     .sends(O, first, 0).figures(OLDEST, first, NEXT, first + 1);
@@ -187,15 +191,16 @@ final class TermsEdges implements Names {
                 .arrive(T, 5001, 1005, 2, 0, ON).sends(T, 1005, 5001, 2048, 0, "ef").sendsNothing();
         Script.answered("window 0", 100, 0, 0).write("a").sendsNothing();
         Script.answered("window 1", 100, 1, 0).write("ab").sends(T, 1001, 5001, 2048, 0, "a").sendsNothing();
-        Script.answered("window just as wide", 100, 2, 0).write("ab").sends(T, 1001, 5001, 2048, 0, "ab").sendsNothing();
+        Script.answered("window just as wide", 100, 2, 0).write("ab").sends(T, 1001, 5001, 2048, 0, "ab")
+                .sendsNothing();
         Script.answered("it shrinks below what was sent", 100, 5, 0).write("abcde").sends(T, 1001, 5).write("fg")
                 .arrive(T, 5001, 1001, 4, 0, ON).sendsNothing().arrive(T, 5001, 1002, 4, 0, ON).sendsNothing()
                 .arrive(T, 5001, 1003, 4, 0, ON).sends(T, 1006, 5001, 2048, 0, "f").sendsNothing();
     }
 
     private static void expectedAndRoom() {
-        Sentence.says("EXPECTED is the first number of the peer's that has not come, ROOM 2048 less the bytes that can be "
-                + "read.");
+        Sentence.says("EXPECTED is the first number of the peer's that has not come, ROOM 2048 less the bytes that "
+                + "can be read.");
         Script.answered("ROOM 2048 and less", 100, 99, 0).figures(EXPECTED, 5001, ROOM, 2048)
                 .feed("b").arrive(T, 5002, 1001, 99, 0, ON).figures(EXPECTED, 5001, ROOM, 2048)
                 .feed("a").arrive(T, 5001, 1001, 99, 0, ON).figures(EXPECTED, 5003, ROOM, 2046)
@@ -209,17 +214,18 @@ final class TermsEdges implements Names {
         Sentence.says("PIECE is how many bytes a segment takes at most, at first its own largest.");
         new Script("its own largest", 1460, 50).figures(PIECE, 1460).begin(1, false).figures(PIECE, 1460);
         new Script("its own least", 1, 50).figures(PIECE, 1);
-        Script.answered("one less than PIECE", 5, 99, 0).write("abcd").sends(T, 1001, 5001, 2048, 0, "abcd").sendsNothing();
+        Script.answered("one less than PIECE", 5, 99, 0).write("abcd").sends(T, 1001, 5001, 2048, 0, "abcd")
+                .sendsNothing();
         Script.answered("just PIECE", 5, 99, 0).write("abcde").sends(T, 1001, 5001, 2048, 0, "abcde").sendsNothing();
         Script.answered("one more than PIECE", 5, 99, 0).write("abcdef").sends(T, 1001, 5001, 2048, 0, "abcde")
                 .sends(T, 1006, 5001, 2048, 0, "f").sendsNothing();
     }
 
     private static void states() {
-        Sentence.says("STATES: 0 FREE, 1 LISTENING, 2 ASKING (has sent OPEN), 3 ANSWERING (has sent OPEN and got one), "
-                + "4 ON, 5 LEAVING (LAST is to be sent or thanked for), 6 LEFT (it was), 7 ALONE (the peer's LAST has "
-                + "come), 8 PARTING (LEAVING, and the peer's has come), 9 ENDING (ALONE, and has closed), 10 QUIET, "
-                + "11 ABORTED.");
+        Sentence.says("STATES: 0 FREE, 1 LISTENING, 2 ASKING (has sent OPEN), 3 ANSWERING (has sent OPEN and got "
+                + "one), 4 ON, 5 LEAVING (LAST is to be sent or thanked for), 6 LEFT (it was), 7 ALONE (the peer's "
+                + "LAST has come), 8 PARTING (LEAVING, and the peer's has come), 9 ENDING (ALONE, and has closed), "
+                + "10 QUIET, 11 ABORTED.");
         new Script("asks, and leaves first", 100, 50).state(0).begin(1, false).state(2)
                 .arrive(O, 50, 0, 9, 0, 3).arrive(T, 51, 2, 9, 0, 4).close().state(5).sends(T + L, 2, 0).state(5)
                 .arrive(T, 51, 3, 9, 0, 6).arrive(T + L, 51, 3, 9, 0, 10).run(50, 50).state(0);
