@@ -1,42 +1,42 @@
-import java.io.IOException;
 import java.lang.reflect.Constructor;
 import java.lang.reflect.Field;
 import java.lang.reflect.Method;
 import java.lang.reflect.Modifier;
-import java.nio.file.Files;
-import java.nio.file.Path;
-import java.util.Arrays;
 import java.util.Set;
 import java.util.TreeSet;
 
 /** The public face and those rules of LANGUAGE.md that can be seen from outside the code. */
 public final class LanguageTest {
-    private static final Set<String> FACE = new TreeSet<>(Arrays.asList(
-            "public void begin(int,boolean) throws IllegalStateException",
-            "public int write(long,int) throws IllegalArgumentException,IllegalStateException",
-            "public int read() throws IllegalStateException",
-            "public void close() throws IllegalStateException",
-            "public void abort() throws IllegalStateException",
-            "public int run(int) throws IllegalArgumentException,IllegalStateException",
-            "public boolean next()",
-            "public int segment(int) throws IllegalArgumentException,IllegalStateException",
-            "public int byteAt(int) throws IllegalStateException,IndexOutOfBoundsException",
-            "public int feed(long,int) throws IllegalArgumentException,IllegalStateException",
-            "public int arrive(int,int,int,int,int) throws IllegalArgumentException",
-            "public int state()",
-            "public int figure(int) throws IllegalArgumentException"));
-    private static final String[] CONSTANTS = {"OPEN", "LAST", "RESET", "THANKS", "NONE", "OVER"};
-    private static final int[] VALUES = {1, 2, 4, 8, -1, -2};
+    private static final Set<String> FACE = new TreeSet<>();
+    private static final Set<String> CONSTANTS = new TreeSet<>();
+    private static final Set<String> CONSTRUCTORS = new TreeSet<>();
     private static final String[] LEFT_OUT = {"catch", "finally", "synchronized", "assert ", "->", "::", "package ",
         "java.util.Random", "System.currentTimeMillis", "System.nanoTime", "Exact(", "static {"};
 
-    public static void main(String[] args) throws IOException, IllegalAccessException {
+    private static final String MADE = "(byte\\[|int\\[|(Outgoing|Incoming|Watch|Due|Segment)\\(\\)|Outgoing\\(this\\.largest\\)"
+            + "|(IllegalArgumentException|IllegalStateException|IndexOutOfBoundsException)\\(\")";
+
+    public static void main(String[] args) throws IllegalAccessException {
+        readTheDocumentsFace();
         faceIsTheDocuments();
         constantsAreTheDocuments();
         nothingElseIsSeen();
         classesKeepTheirSize();
         textLeavesOutWhatIsRuledOut();
         Script.finish();
+    }
+
+    /** Sorts the document's lines as reflection tells members: without the parameters' names. */
+    private static void readTheDocumentsFace() {
+        for (String line : Document.faceLines()) {
+            if (line.contains("=")) {
+                CONSTANTS.add(line);
+            } else {
+                Set<String> where = line.startsWith("public StreamEnd(") ? CONSTRUCTORS : FACE;
+                where.add(line.replaceAll("(int|long|boolean) \\w+([,)])", "$1$2").replace(", ", ",").replace(";", ""));
+            }
+        }
+        expect("the document's face was found", FACE.size() == 13 && CONSTANTS.size() == 6 && CONSTRUCTORS.size() == 1);
     }
 
     private static void faceIsTheDocuments() {
@@ -49,33 +49,38 @@ public final class LanguageTest {
                 found.add(m.toGenericString().replace("java.lang.", "").replace("StreamEnd.", ""));
             }
         }
+        for (Class<?> c : StreamEnd.class.getDeclaredClasses()) {
+            for (Method m : c.getDeclaredMethods()) {
+                hidden.add(m.getName());
+            }
+        }
         expect("the methods are the document's: " + found, found.equals(FACE));
         for (String line : FACE) {
             String name = line.replaceAll("\\(.*", "").replaceAll(".* ", "");
             expect("no private method is named " + name, !hidden.contains(name));
         }
-        Constructor<?>[] made = StreamEnd.class.getDeclaredConstructors();
-        expect("one public constructor", made.length == 1
-                && made[0].toString().equals("public StreamEnd(int,int)"));
+        Set<String> makers = new TreeSet<>();
+        for (Constructor<?> c : StreamEnd.class.getDeclaredConstructors()) {
+            makers.add(c.toString());
+        }
+        expect("the constructors are the document's: " + makers, makers.equals(CONSTRUCTORS));
         expect("public and final", Modifier.isPublic(StreamEnd.class.getModifiers())
                 && Modifier.isFinal(StreamEnd.class.getModifiers()));
     }
 
     private static void constantsAreTheDocuments() throws IllegalAccessException {
-        for (int i = 0; i < CONSTANTS.length; i++) {
-            try {
-                expect(CONSTANTS[i], StreamEnd.class.getField(CONSTANTS[i]).getInt(null) == VALUES[i]);
-            } catch (NoSuchFieldException e) {
-                expect(CONSTANTS[i] + " is there", false);
+        Set<String> found = new TreeSet<>();
+        for (Field f : StreamEnd.class.getDeclaredFields()) {
+            if (!Modifier.isPrivate(f.getModifiers())) {
+                String told = f.toString().replace("StreamEnd.", "");
+                boolean isConstant = told.startsWith("public static final int ");
+                found.add(isConstant ? told + " = " + f.getInt(null) + ";" : told);
             }
         }
+        expect("the constants are the document's, and no other field is seen: " + found, found.equals(CONSTANTS));
     }
 
     private static void nothingElseIsSeen() {
-        for (Field f : StreamEnd.class.getDeclaredFields()) {
-            expect("field " + f.getName() + " is private", Modifier.isPrivate(f.getModifiers())
-                    || Arrays.asList(CONSTANTS).contains(f.getName()));
-        }
         for (Class<?> c : StreamEnd.class.getDeclaredClasses()) {
             expect("class " + c.getName() + " is private and static",
                     Modifier.isPrivate(c.getModifiers()) && Modifier.isStatic(c.getModifiers()));
@@ -103,10 +108,15 @@ public final class LanguageTest {
         }
     }
 
-    private static void textLeavesOutWhatIsRuledOut() throws IOException {
-        String text = Files.readString(Path.of("src/main/java/StreamEnd.java"));
+    private static void textLeavesOutWhatIsRuledOut() {
+        String text = Document.textOf("src/main/java/StreamEnd.java");
         for (String word : LEFT_OUT) {
             expect("the text has no '" + word + "'", !text.contains(word));
+        }
+        String code = text.replaceAll("(?s)/\\*.*?\\*/", "").replaceAll("//.*", "");
+        for (String made : code.split("\\bnew ")) {
+            expect("only rows, own classes and the document's exceptions are made: " + made.split("\n")[0],
+                    made.startsWith("import ") || made.matches("(?s)" + MADE + ".*"));
         }
         for (String line : text.split("\n")) {
             expect("nothing but Arrays is imported: " + line,

@@ -1,7 +1,3 @@
-import java.io.IOException;
-import java.io.UncheckedIOException;
-import java.nio.file.Files;
-import java.nio.file.Path;
 import java.util.BitSet;
 
 /** The sentences of the document: which one the runs of calls are about, and whether each has runs of its own. */
@@ -13,20 +9,10 @@ final class Sentence {
     private Sentence() {
     }
 
-    /** What the document says of behaviour, without its headings and its code. */
+    /** What the document says of behaviour from its first line on, without its headings and its code. */
     private static String text() {
-        String all;
-        try {
-            all = Files.readString(Path.of("../shared/DOC.md"));
-        } catch (IOException e) {
-            throw new UncheckedIOException(e);
-        }
-        int from = all.indexOf("An object is used");
-        int to = all.indexOf("## Not promised");
-        if (from < 0 || to < from) {
-            return "";
-        }
-        return all.substring(from, to).replaceAll("(?s)```java.*?```", " ").replaceAll("```(text)?", " ")
+        String said = Document.between(Document.all(), "# StreamEnd\n", "## Not promised");
+        return said.replaceAll("(?s)```java.*?```", " ").replaceAll("```(text)?", " ")
                 .replaceAll("(?m)^#.*$", " ").replaceAll("`[^`]*`", " ").replaceAll("\\s+", " ");
     }
 

@@ -4,6 +4,7 @@
  */
 public final class SentencesTest {
     public static void main(String[] args) {
+        FirstLineEdges.all();
         TermsEdges.all();
         ArriveEdges.all();
         StreamEdges.all();
